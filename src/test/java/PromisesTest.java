@@ -279,8 +279,10 @@ public final class PromisesTest {
     }
 
     private static void linesAndPages() {
-        BreakLines x = piece(100, 2, 6, 50, 50);
-        dueLastBars("two bars a line", x, 1, 3, 5);
+        BreakLines x = piece(100, 2, 5, 50, 50);
+        dueLastBars("two bars a line", x, 1, 3, 4);
+        x.bar(50, 50);
+        dueLastBars("a bar more", x, 1, 3, 5);
         dueLinesOnPages("a turn, and no widow if it can be", x, 1, 2);
         due("sum()", x.sum(), 1000);
         x.mark(3, REST, true);
