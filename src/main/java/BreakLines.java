@@ -217,13 +217,11 @@ public final class BreakLines {
         if (!piece.hasBar(bar) || !isWithin(mark, 0, MARKS - 1)) {
             return NOTHING;
         }
-        if (piece.isMarked(bar, mark)) {
-            return sum();
-        }
         // The best setting that is kept stays true: the search has tables of its own.
+        boolean was = piece.isMarked(bar, mark);
         piece.putMark(bar, mark, true);
         search.run();
-        piece.putMark(bar, mark, false);
+        piece.putMark(bar, mark, was);
         return search.foundTotal();
     }
 
@@ -328,7 +326,7 @@ public final class BreakLines {
         }
 
         boolean isOver(int from, int to) {
-            return leastOf(from, to) > width;
+            return leastAhead[to + 1] - leastAhead[from] > width;
         }
 
         boolean mayBe(int from, int to) {
@@ -399,6 +397,7 @@ public final class BreakLines {
 
         private final Piece piece;
         private final long[] linePrices;
+        private final long[] turnPrices;
         // For each first bar and number of lines already on its page: the best rest.
         private final long[] ranks;
         private final long[] orders;
@@ -408,6 +407,7 @@ public final class BreakLines {
         Search(Piece piece) {
             this.piece = piece;
             linePrices = new long[MOST_BARS * MOST_BARS];
+            turnPrices = new long[MOST_BARS];
             ranks = new long[MOST_BARS * MOST_PER_PAGE];
             orders = new long[MOST_BARS * MOST_PER_PAGE];
             foundRank = NONE;
@@ -424,7 +424,7 @@ public final class BreakLines {
                 foundRank = NONE;
                 return;
             }
-            priceLines();
+            priceLinesAndTurns();
             if (piece.count == 0) {
                 fillForAnyCount();
             } else {
@@ -450,8 +450,9 @@ public final class BreakLines {
             return (foundOrder & pageEnd(bar)) != 0L;
         }
 
-        private void priceLines() {
+        private void priceLinesAndTurns() {
             for (int from = 0; from < piece.bars; from++) {
+                turnPrices[from] = piece.turnPrice(from);
                 for (int to = from; to < piece.bars; to++) {
                     linePrices[from * MOST_BARS + to] = piece.linePrice(from, to);
                 }
@@ -507,7 +508,7 @@ public final class BreakLines {
         private void offerGoingOn(int cell, long rank, int to, int onPage) {
             int next = (to + 1) * MOST_PER_PAGE;
             if (ranks[next] != NONE) {
-                long turn = piece.turnPrice(to) * ONE_OF_SUM + ONE_PAGE;
+                long turn = turnPrices[to] * ONE_OF_SUM + ONE_PAGE;
                 offer(cell, rank + turn + ranks[next], lineEnd(to) + pageEnd(to) + orders[next]);
             }
             if (onPage < piece.perPage && ranks[next + onPage] != NONE) {
