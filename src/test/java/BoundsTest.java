@@ -152,6 +152,9 @@ public final class BoundsTest {
             }
         }
         BreakLines x = Check.piece(100, 8, 2, 10, 20);
+        for (int mark = 0; mark < 3; mark++) {
+            Check.due("would(1, " + mark + ")", x.would(1, mark), 0);
+        }
         for (int mark : new int[] {-1, 3, MIN, MAX}) {
             Check.due("mark(1, " + mark + ", true)", x.mark(1, mark, true), -2);
             Check.due("mark(1, " + mark + ", false)", x.mark(1, mark, false), -2);
@@ -270,9 +273,11 @@ public final class BoundsTest {
             {4999, 4999}, {5000, 5000}, {5001, 5000}, {MAX, 5000}};
         for (int[] row : rows) {
             dueWidthOf("new(" + row[0] + ", 1)", new BreakLines(row[0], 1), row[1]);
-            BreakLines x = new BreakLines(777, 1);
+            BreakLines x = Check.stiff(777, 1, 1);
             boolean within = row[0] == row[1];
+            Check.due("line(0, 3) at first", x.line(0, 3), 1000776);
             Check.due("size(0, " + row[0] + ")", x.size(0, row[0]), within ? 777 : -2);
+            Check.due("line(0, 3)", x.line(0, 3), 1000000 + (within ? row[0] : 777) - 1);
             dueWidthOf("size(0, " + row[0] + ")", x, within ? row[0] : 777);
         }
     }
@@ -727,7 +732,10 @@ public final class BoundsTest {
         Check.due("set(2, 2)", x.set(2, 2), 67);
         x.size(0, 102);
         Check.dueSetWidths("3 by thirds", x, 34, 34, 34);
-        BreakLines y = Check.stiff(101, 8, 20, 30, 10);
+        BreakLines y = new BreakLines(101, 8);
+        y.bar(1, 20);
+        y.bar(29, 30);
+        y.bar(10, 10);
         Check.dueSetWidths("41 by 20, 50, 60 of 60: 13, 34, 41", y, 33, 51, 17);
         BreakLines z = Check.piece(5000, 8, 24, 1, 1);
         for (int bar = 0; bar < 24; bar++) {
@@ -825,6 +833,84 @@ public final class BoundsTest {
         Check.due("sum()", x.sum(), 23 * 1000 + 500);
     }
 
+    private static void endsBehindABar() {
+        BreakLines x = Check.stiff(100, 8, 50, 50, 50, 50, 50);
+        boolean[] want = {false, true, false, true, true};
+        for (int bar = 0; bar < 5; bar++) {
+            Check.due("ends(" + bar + ")", x.ends(bar), want[bar]);
+        }
+        for (int bar : new int[] {-1, 5, 23, 24, MIN, MAX}) {
+            Check.due("no such bar: ends(" + bar + ")", x.ends(bar), false);
+        }
+        x.count(2);
+        for (int bar = 0; bar < 5; bar++) {
+            Check.due("no SETTING: ends(" + bar + ")", x.ends(bar), false);
+        }
+        x.count(3);
+        Check.due("a SETTING again: ends(1)", x.ends(1), true);
+        x.mark(0, Check.FORCED, true);
+        Check.due("another SETTING: ends(0)", x.ends(0), true);
+        Check.due("another SETTING: ends(1)", x.ends(1), false);
+    }
+
+    private static void noSettingAndThenOne() {
+        BreakLines x = Check.stiff(100, 8, 60, 60);
+        Check.due("two lines: sum()", x.sum(), 1600);
+        x.mark(0, Check.BARRED, true);
+        Check.due("none: lines()", x.lines(), -3);
+        Check.due("none: pages()", x.pages(), -3);
+        Check.due("none: sum()", x.sum(), NOTHING);
+        Check.due("none: line(0, 0)", x.line(0, 0), -3);
+        Check.due("none: page(0, 0)", x.page(0, 0), -3);
+        Check.due("none: set(0, 0)", x.set(0, 0), -3);
+        Check.due("none: badness(1, 1)", x.badness(1, 1), 0);
+        x.size(0, 120);
+        Check.due("one line: lines()", x.lines(), 1);
+        Check.due("one line: sum()", x.sum(), 0);
+        x.size(0, 119);
+        Check.due("too narrow by 1: lines()", x.lines(), -3);
+        x.mark(0, Check.BARRED, false);
+        Check.due("two lines again: sum()", x.sum(), 59 * 59);
+    }
+
+    private static void aMarkMore() {
+        BreakLines x = Check.stiff(100, 1, 60, 60, 40);
+        Check.due("0 | 1 2: sum()", x.sum(), 1600 + 1000 + 500);
+        Check.due("FORCED: 0 | 1 | 2", x.would(1, Check.FORCED), 1600 + 1600 + 2000 + 500);
+        Check.due("FORCED where a line ends", x.would(0, Check.FORCED), 3100);
+        Check.due("REST at a turn", x.would(0, Check.REST), 2100);
+        Check.due("REST inside a line", x.would(1, Check.REST), 3100);
+        Check.due("BARRED, and too wide", x.would(0, Check.BARRED), NOTHING);
+        Check.due("BARRED inside a line", x.would(1, Check.BARRED), 3100);
+        Check.due("BARRED at the end of all", x.would(2, Check.BARRED), 3100);
+        Check.due("nothing is marked: sum()", x.sum(), 3100);
+        x.mark(0, Check.REST, true);
+        Check.due("a MARK that is on", x.would(0, Check.REST), 2100);
+        Check.due("it is on still", x.mark(0, Check.REST, true), 1);
+        x.mark(0, Check.BARRED, true);
+        Check.due("no SETTING, and a MARK more", x.would(1, Check.REST), NOTHING);
+        Check.due("FORCED makes one", x.would(0, Check.FORCED), 2100);
+        Check.due("none without it", x.sum(), NOTHING);
+    }
+
+    private static void toNotBeforeFrom() {
+        BreakLines x = Check.stiff(100, 8, 30, 30, 30);
+        Check.due("badness(1, 1)", x.badness(1, 1), 70 * 70);
+        Check.due("badness(1, 2)", x.badness(1, 2), 0);
+        Check.due("badness(1, 0)", x.badness(1, 0), NOTHING);
+        Check.due("badness(2, 0)", x.badness(2, 0), NOTHING);
+        Check.due("badness(0, 0)", x.badness(0, 0), 70 * 70);
+        Check.due("badness(-1, 0)", x.badness(-1, 0), NOTHING);
+        Check.due("badness(0, -1)", x.badness(0, -1), NOTHING);
+        Check.due("badness(2, 2)", x.badness(2, 2), 0);
+        Check.due("badness(2, 3)", x.badness(2, 3), NOTHING);
+        Check.due("badness(3, 3)", x.badness(3, 3), NOTHING);
+        Check.due("badness(MIN, 0)", x.badness(MIN, 0), NOTHING);
+        Check.due("badness(0, MAX)", x.badness(0, MAX), NOTHING);
+        Check.due("badness(MIN, MAX)", x.badness(MIN, MAX), NOTHING);
+        Check.due("badness(MAX, MAX)", x.badness(MAX, MAX), NOTHING);
+    }
+
     private static void dAs1000000AndD() {
         BreakLines x = Check.stiff(100, 8, 100);
         Check.due("d is 0", x.line(0, 3), 1000000);
@@ -906,6 +992,10 @@ public final class BoundsTest {
         Check.sentence("with a COUNT above 0 there is none", BoundsTest::withoutBarsButACount);
         Check.sentence("How many lines it has. How many pages.", BoundsTest::mostLinesAndPages);
         Check.sentence("3 d, as 1000000 and d", BoundsTest::dAs1000000AndD);
+        Check.sentence("-3 there is no SETTING", BoundsTest::noSettingAndThenOne);
+        Check.sentence("Whether a line ends behind a bar", BoundsTest::endsBehindABar);
+        Check.sentence("What a line from a bar to another one would cost", BoundsTest::toNotBeforeFrom);
+        Check.sentence("THE SUM .. if a bar had a MARK more", BoundsTest::aMarkMore);
     }
 
     public static void main(String[] args) {

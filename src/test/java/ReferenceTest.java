@@ -4,16 +4,19 @@ import java.util.List;
 import java.util.Map;
 
 /**
- * Long runs of calls, each answer held against a plain model of the document. The model writes
- * out all settings of a short piece; of a long one it keeps the best rest behind each bar, as
- * rows of lines and pages that are compared by the document's words.
+ * Runs of as many calls as an object is used for, each answer held against a plain model of the
+ * document. Where a piece has few settings, as it is short or most of its bars are marked, the
+ * model writes them all out; else it keeps the best rest behind each bar, as rows of lines and
+ * pages that are compared by the document's words.
  */
 public final class ReferenceTest {
     private static final int SHORT_PIECE = 7;
-    private static final int RUNS = 1500;
+    private static final int FEW_SETTINGS = 2000;
+    private static final int RUNS = 1200;
     private static final int CALLS = 512;
 
     private static int wrong = 0;
+    private static int longOnesWrittenOut = 0;
 
     private ReferenceTest() {
     }
@@ -194,13 +197,24 @@ public final class ReferenceTest {
             if (widths.isEmpty()) {
                 return count == 0 ? new Row() : null;
             }
-            if (widths.size() <= SHORT_PIECE) {
+            if (hasFewSettings()) {
                 best = null;
                 partInLines(0, new ArrayList<>());
+                longOnesWrittenOut += best != null && best.barsInLine.size() > SHORT_PIECE ? 1 : 0;
                 return best;
             }
             rests = new HashMap<>();
             return rest(0, 0, count);
+        }
+
+        /** At most three ways behind each bar (no end, a line's, a page's), two if it is FORCED. */
+        private boolean hasFewSettings() {
+            int most = 1;
+            for (int bar = 0; bar < widths.size() - 1 && most <= FEW_SETTINGS; bar++) {
+                boolean forced = marks.get(bar)[0];
+                most *= forced ? 2 : marks.get(bar)[1] ? 1 : 3;
+            }
+            return most <= FEW_SETTINGS;
         }
 
         private void partInLines(int from, List<Integer> lines) {
@@ -463,19 +477,24 @@ public final class ReferenceTest {
         final Model model;
         final int most;
         final boolean alike;
+        final boolean marked;
+        int calls = 0;
 
         Run(int number) {
             this.number = number;
             dice = new Dice(number + 1);
-            int width = dice.oneIn(4) ? dice.near(100, 5000) : dice.between(100, 600);
+            marked = number % 4 == 0;
+            int usual = marked ? dice.between(300, 1500) : dice.between(100, 600);
+            int width = dice.oneIn(4) ? dice.near(100, 5000) : usual;
             int perPage = dice.near(1, 8);
             x = new BreakLines(width, perPage);
             model = new Model(width, perPage);
-            most = dice.oneIn(3) ? 26 : SHORT_PIECE;
+            most = marked || dice.oneIn(3) ? 26 : SHORT_PIECE;
             alike = dice.below(2) == 0;
         }
 
         void due(String call, long got, long want) {
+            calls++;
             if (got != want && wrong++ < 50) {
                 System.out.println("run " + number + ": " + call + " answered " + got + ", due is " + want);
             }
@@ -510,14 +529,12 @@ public final class ReferenceTest {
                 case 4:
                 case 5:
                 case 6:
-                    int bar = someBar();
                     int mark = dice.near(0, 2);
-                    boolean on = dice.below(2) == 0;
-                    due("mark(" + bar + ", " + mark + ", " + on + ")", x.mark(bar, mark, on), model.mark(bar, mark, on));
+                    putMark(someBar(), mark, isOn(mark));
                     break;
                 case 7:
                     int kind = dice.near(0, 4);
-                    int v = alike ? dice.below(3) * 500 : dice.near(0, 1000000);
+                    int v = alike ? Math.max(0, dice.below(6) - 3) * 500 : dice.near(0, 1000000);
                     due("cost(" + kind + ", " + v + ")", x.cost(kind, v), model.cost(kind, v));
                     break;
                 case 8:
@@ -526,7 +543,8 @@ public final class ReferenceTest {
                     break;
                 default:
                     int what = dice.near(0, 1);
-                    int size = what == 1 ? dice.near(1, 8) : alike ? 50 * dice.between(2, 12) : dice.near(100, 5000);
+                    int wide = alike ? 50 * dice.between(2, marked ? 30 : 12) : dice.near(100, 5000);
+                    int size = what == 1 ? dice.near(1, 8) : wide;
                     due("size(" + what + ", " + size + ")", x.size(what, size), model.size(what, size));
                     break;
             }
@@ -537,6 +555,26 @@ public final class ReferenceTest {
                 int wished = wished();
                 int least = least(wished);
                 due("bar(" + least + ", " + wished + ")", x.bar(least, wished), model.bar(least, wished));
+            }
+        }
+
+        void putMark(int bar, int mark, boolean on) {
+            due("mark(" + bar + ", " + mark + ", " + on + ")", x.mark(bar, mark, on), model.mark(bar, mark, on));
+        }
+
+        /** In a piece that is to have few settings, most bars are BARRED and some are FORCED. */
+        boolean isOn(int mark) {
+            if (!marked || mark == 2) {
+                return dice.below(2) == 0;
+            }
+            return mark == 1 ? !dice.oneIn(8) : dice.oneIn(4);
+        }
+
+        void markMost() {
+            for (int bar = 0; bar < model.widths.size(); bar++) {
+                if (!dice.oneIn(6)) {
+                    putMark(bar, dice.oneIn(4) ? 0 : 1, true);
+                }
             }
         }
 
@@ -555,14 +593,18 @@ public final class ReferenceTest {
             int bar = someBar();
             int other = someBar();
             int what = dice.near(0, 3);
-            switch (dice.below(8)) {
+            switch (dice.below(10)) {
                 case 0:
                     due("bars()", x.bars(), model.widths.size());
-                    due("lines()", x.lines(), lines);
-                    due("pages()", x.pages(), pages);
                     break;
                 case 1:
                     due("sum()", x.sum(), row == null ? -1 : row.sum);
+                    break;
+                case 8:
+                    due("lines()", x.lines(), lines);
+                    break;
+                case 9:
+                    due("pages()", x.pages(), pages);
                     break;
                 case 2:
                     int k = dice.near(0, Math.max(0, lines - 1));
@@ -588,14 +630,19 @@ public final class ReferenceTest {
         }
 
         void all() {
-            int atFirst = dice.below(most);
+            int atFirst = marked ? 24 : dice.below(most);
             for (int bar = 0; bar < atFirst; bar++) {
                 addBar();
             }
-            // A call of ask() may make three.
-            for (int call = 0; call < (CALLS - atFirst) / 4; call++) {
-                say();
-                ask();
+            if (marked) {
+                markMost();
+            }
+            while (calls < CALLS) {
+                if (dice.below(2) == 0) {
+                    say();
+                } else {
+                    ask();
+                }
             }
         }
     }
@@ -604,8 +651,9 @@ public final class ReferenceTest {
         for (int run = 0; run < RUNS; run++) {
             new Run(run).all();
         }
-        System.out.println(wrong == 0 ? "as the model in " + RUNS + " runs" : wrong + " answers are not as due");
-        if (wrong != 0) {
+        System.out.println(RUNS + " runs, " + wrong + " answers are not as due; settings of more lines than "
+                + SHORT_PIECE + " written out " + longOnesWrittenOut + " times");
+        if (wrong != 0 || longOnesWrittenOut == 0) {
             System.exit(1);
         }
     }
