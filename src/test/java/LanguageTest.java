@@ -91,20 +91,24 @@ public final class LanguageTest {
     private static void face() {
         Class<BreakLines> c = BreakLines.class;
         check(c.getModifiers() == (Modifier.PUBLIC | Modifier.FINAL), "public final class");
+        check(c.getSuperclass() == Object.class && c.getInterfaces().length == 0, "a class by itself");
         Set<String> methods = new TreeSet<>();
         Set<String> publicNames = new TreeSet<>();
         for (Method method : c.getDeclaredMethods()) {
             if (Modifier.isPublic(method.getModifiers())) {
+                check(method.getModifiers() == Modifier.PUBLIC, method + " is public and no more");
+                check(method.getExceptionTypes().length == 0, method + " tells of no exception");
                 methods.add(describe(method));
                 publicNames.add(method.getName());
             }
         }
         check(methods.equals(new TreeSet<>(FACE)), "the public methods are the document's: " + methods);
         onlyPrivateBeside(c, publicNames);
-        Constructor<?>[] made = c.getDeclaredConstructors();
-        check(made.length == 1 && Modifier.isPublic(made[0].getModifiers())
-                && Arrays.equals(made[0].getParameterTypes(), new Class<?>[] {int.class, int.class}),
-                "one public constructor of two ints");
+        Set<String> made = new TreeSet<>();
+        for (Constructor<?> constructor : c.getDeclaredConstructors()) {
+            made.add(constructor.toString());
+        }
+        check(made.equals(Set.of("public BreakLines(int,int)")), "one constructor of two ints: " + made);
         for (Class<?> inside : c.getDeclaredClasses()) {
             classInside(inside, publicNames);
         }
@@ -117,11 +121,13 @@ public final class LanguageTest {
                 check(!publicNames.contains(method.getName()), method + " has a name of its own");
             }
         }
+        Set<String> seen = new TreeSet<>();
         for (Field field : c.getDeclaredFields()) {
-            boolean nothing = field.getName().equals("NOTHING");
-            int want = nothing ? Modifier.PUBLIC : Modifier.PRIVATE;
-            check((field.getModifiers() & want) != 0, field + " is seen as it should be");
+            if (!Modifier.isPrivate(field.getModifiers())) {
+                seen.add(field.toString());
+            }
         }
+        check(seen.equals(Set.of("public static final long BreakLines.NOTHING")), "one constant is seen: " + seen);
         staticIsConstant(c);
     }
 
